@@ -309,6 +309,29 @@ public final class FrameVerifierCodeEdges extends Checks {
                 due("of the call, " + i, () -> x.local(at), i < count ? passed[3 - count + i] : NOTHING);
             }
         }
+        othersEmptyAnew();
+    }
+
+    /** A second call, and a second run, where the first one left values in its locals. */
+    private static void othersEmptyAnew() {
+        FrameVerifier x = coded(PUSH, 1, CALL, 1, DROP, 0, PUSH, 2, CALL, 1, RETURN, 0,
+                LOAD, 0, STORE, 1, LOAD, 0, STORE, 5, LOAD, 5, RETURN, 0);
+        x.routine(0, 0, 0, 0);
+        x.routine(1, 6, 1, 0);
+        x.start(0, 0, 0);
+        x.steps(6);
+        dueLocals(x, 1, 1, -1, -1, -1, 1);
+        x.steps(5);
+        dueLocals(x, 2);
+        x.steps(4);
+        dueLocals(x, 2, 2, -1, -1, -1, 2);
+        x.routine(0, 6, 1, 0);
+        for (int i = 0; i < 2; i++) {
+            x.start(3, 4, 5);
+            dueLocals(x, 3);
+            x.steps(4);
+            dueLocals(x, 3, 3, -1, -1, -1, 3);
+        }
     }
 
     private static void pushes() {

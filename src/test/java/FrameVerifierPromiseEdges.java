@@ -6,6 +6,7 @@ public final class FrameVerifierPromiseEdges extends Checks {
 
     public static void main(String[] args) {
         watch();
+        test("An object is used for at most 512 calls", FrameVerifierPromiseEdges::manyCalls);
         test("1: No instructions", FrameVerifierPromiseEdges::noInstructions);
         test("1: no routines", FrameVerifierPromiseEdges::noRoutines);
         test("1: nothing runs", FrameVerifierPromiseEdges::nothingRuns);
@@ -64,6 +65,17 @@ public final class FrameVerifierPromiseEdges extends Checks {
         test("11: -1 when there is none such", FrameVerifierPromiseEdges::localNotThere);
         test("11: -1 when no run goes on", FrameVerifierPromiseEdges::localNoRun);
         end();
+    }
+
+    /** The program doesn't count them, but up to the 512th each has its answer. */
+    private static void manyCalls() {
+        FrameVerifier x = coded(LOAD, 0, PUSH, 1, ADD, 0, STORE, 0, JUMP, 0);
+        x.routine(0, 0, 1, 0);
+        x.start(-5, 0, 0);
+        for (int i = 0; i < 504; i++) {
+            due("steps", () -> x.steps(200), 200);
+        }
+        due("the 512th call", () -> x.local(0), 504 * 40 - 5);
     }
 
     private static void noInstructions() {
@@ -125,9 +137,11 @@ public final class FrameVerifierPromiseEdges extends Checks {
         due("the 99th", () -> x.add(PUSH, 77), 98);
         due("the 100th", () -> x.add(RETURN, 0), 99);
         x.routine(0, 98, 0, 0);
+        due("verify", x::verify, 0);
         x.start(0, 0, 0);
         for (int i = 0; i < 3; i++) {
             due("the 101st", () -> x.add(BAD, 0), FULL);
+            due("verified as before", x::isVerified, true);
             dueAbout(x, 1, 98, 1, 0, -1, 0, 0, 100);
         }
         due("the run goes on", () -> x.steps(9), 2);
@@ -224,6 +238,12 @@ public final class FrameVerifierPromiseEdges extends Checks {
             dueAbout(x, 1, 1, 1, 1, 1);
             due("right as before", x::verify, 0);
             due("the run goes on as before", x::step, 0);
+            x.start(6, 7, 8);
+            due("a new run begins as before", () -> x.about(1), 0);
+            dueLocals(x, 6);
+            x.add(BAD, 0);
+            dueTypes(x, 0, 0, INT);
+            due("right as before", x::verify, 0);
         }
     }
 
@@ -434,6 +454,10 @@ public final class FrameVerifierPromiseEdges extends Checks {
         }
         due("slot 0", () -> x.type(0, 6, 0), EMPTY);
         due("slot 11", () -> x.type(0, 6, 11), REFERENCE);
+        FrameVerifier torn = plain(PUSH, 1, JUMP, 0);
+        for (int slot : new int[] {LEAST, -1, 12, MOST}) {
+            due("of a torn state, slot " + slot, () -> torn.type(0, 0, slot), NOTHING);
+        }
     }
 
     private static void noState() {
@@ -473,6 +497,9 @@ public final class FrameVerifierPromiseEdges extends Checks {
         x.routine(0, 1, 0, 0);
         due("also what is not right", () -> x.start(0, 0, 0), true);
         dueAbout(x, 1, 1, 1, 0, -1, 0, 0, 2);
+        x.routine(0, 2, 0, 0);
+        due("also where no instruction is", () -> x.start(0, 0, 0), true);
+        dueAbout(x, 1, 2, 1, 0, -1, 0, 0, 2);
         x.routine(0, 0, 0, 0);
         due("after it was told anew", () -> x.start(0, 0, 0), true);
         dueAbout(x, 1, 0, 1, 0, -1, 0, 0, 2);
@@ -781,6 +808,14 @@ public final class FrameVerifierPromiseEdges extends Checks {
         x.start(0, 0, 0);
         due("a trap", x::step, UNFIT);
         due("ended not by RETURN", () -> x.about(5), 12);
+        append(x, LOAD, 0, CALL, 1, PUSH, 1, ADD, 0, RETURN, 0);
+        x.routine(0, 7, 1, 0);
+        x.routine(1, 0, 1, 0);
+        x.start(60, 0, 0);
+        x.steps(4);
+        due("a RETURN that ends no run", () -> x.about(5), 12);
+        x.steps(3);
+        due("one that ends it", () -> x.about(5), 61);
     }
 
     private static void aboutElements() {

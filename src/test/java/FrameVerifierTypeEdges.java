@@ -12,6 +12,7 @@ public final class FrameVerifierTypeEdges extends Checks {
         test("of several that meet, on the stack", FrameVerifierTypeEdges::stacksMeet);
         test("of several that meet, three", FrameVerifierTypeEdges::threeMeet);
         test("On the stack there is no EMPTY", FrameVerifierTypeEdges::noEmptyOnTheStack);
+        test("A STATE is types for six locals and a stack of some height", FrameVerifierTypeEdges::someHeight);
         test("States that MEET make that of what meets place by place", FrameVerifierTypeEdges::placeByPlace);
         test("with different heights they are TORN", FrameVerifierTypeEdges::differentHeights);
         test("what is torn stays so", FrameVerifierTypeEdges::tornStays);
@@ -21,6 +22,8 @@ public final class FrameVerifierTypeEdges extends Checks {
         test("At first only the start has a state", FrameVerifierTypeEdges::onlyTheStart);
         test("the least one that does is taken", FrameVerifierTypeEdges::leastIsTaken);
         test("if it fits its state, what comes of that meets", FrameVerifierTypeEdges::unfitGoesNowhere);
+        test("what comes of that", FrameVerifierTypeEdges::whatComesOfEach);
+        test("what comes of that: CALL", FrameVerifierTypeEdges::whatComesOfCall);
         test("the addresses where it can go on", FrameVerifierTypeEdges::whereItGoesOn);
         test("what has met stays, whatever comes later", FrameVerifierTypeEdges::whatHasMetStays);
         test("FITS its state, if it has one that isn't torn", FrameVerifierTypeEdges::tornNeverFits);
@@ -132,6 +135,18 @@ public final class FrameVerifierTypeEdges extends Checks {
                         slot < 6 + at ? REFERENCE : NOTHING);
             }
         }
+    }
+
+    private static void someHeight() {
+        FrameVerifier x = coded(PUSH, 1, NONE, 0, PUSH, 1, NONE, 0, PUSH, 1, NONE, 0, STORE, 5, STORE, 4,
+                STORE, 3, STORE, 0, DROP, 0, DROP, 0, JUMP, 12);
+        x.routine(0, 0, 3, 4);
+        due("verify", x::verify, 0);
+        dueTypes(x, 0, 0, 1, 1, 2);
+        dueTypes(x, 0, 6, 1, 1, 2, 0, 0, 0, 1, 2, 1, 2, 1, 2);
+        dueTypes(x, 0, 9, 1, 1, 2, 2, 1, 2, 1, 2, 1);
+        dueTypes(x, 0, 10, 1, 1, 2, 2, 1, 2, 1, 2);
+        dueTypes(x, 0, 12, 1, 1, 2, 2, 1, 2);
     }
 
     /** All twelve places by two ways, of which one place alone differs. */
@@ -312,6 +327,40 @@ public final class FrameVerifierTypeEdges extends Checks {
         FrameVerifier far = plain(PUSH, 0, ZERO, 9, PUSH, 1, RETURN, 0);
         due("nor behind itself", far::verify, 1001);
         dueAll(far, 0, 2, NOTHING);
+    }
+
+    /** Every op above a reference and an int, which stay as they are. */
+    private static void whatComesOfEach() {
+        String[] gives = {"i", "i", "i", "i", "i", "i", "", "", "", "r", "", "r", "i", "", "i", "ii", "ri", "",
+            null, null};
+        for (int op = 0; op < CALL; op++) {
+            String takes = op == EXCHANGE ? "ir" : TAKES[op].replace('a', 'i');
+            FrameVerifier x = withStack("ri".concat(takes), op, 0);
+            dueStack("op " + op, x, "ri".concat(gives[op]));
+            due("local 0 after op " + op, () -> x.type(0, x.about(7) - 1, 0), INT);
+            due("local 1 after op " + op, () -> x.type(0, x.about(7) - 1, 1), EMPTY);
+        }
+    }
+
+    private static void whatComesOfCall() {
+        for (int parameters = 0; parameters <= 3; parameters++) {
+            for (int kinds : new int[] {0, 8}) {
+                FrameVerifier x = withStack("riii", CALL, 2);
+                x.routine(2, 0, parameters, kinds);
+                dueStack("CALL with " + parameters, x,
+                        "riii".substring(0, 4 - parameters).concat(kinds == 0 ? "i" : "r"));
+            }
+        }
+    }
+
+    /** The stack at the last address. */
+    private static void dueStack(String what, FrameVerifier x, String kinds) {
+        int address = x.about(7) - 1;
+        for (int i = 0; i < 6; i++) {
+            int slot = 6 + i;
+            int want = i >= kinds.length() ? NOTHING : kinds.charAt(i) == 'i' ? INT : REFERENCE;
+            due(what + ", slot " + slot, () -> x.type(0, address, slot), want);
+        }
     }
 
     private static void whereItGoesOn() {
