@@ -10,6 +10,7 @@ public final class FrameVerifierPromises extends Checks {
     public static void main(String[] args) {
         watch();
         test("the face", FrameVerifierPromises::face);
+        test("README.md, its examples", FrameVerifierPromises::examples);
         test("promise 1", FrameVerifierPromises::newObject);
         test("promise 2", FrameVerifierPromises::add);
         test("promise 3", FrameVerifierPromises::routine);
@@ -50,6 +51,27 @@ public final class FrameVerifierPromises extends Checks {
         Constructor<?>[] constructors = FrameVerifier.class.getDeclaredConstructors();
         due("constructors", () -> constructors.length, 1);
         due("public final", () -> Modifier.toString(FrameVerifier.class.getModifiers()), "public final");
+    }
+
+    private static void examples() {
+        FrameVerifier x = coded(LOAD, 0, TWICE, 0, MULTIPLY, 0, RETURN, 0);
+        due("routine", () -> x.routine(0, 0, 1, 0), true);
+        due("verify", x::verify, 0);
+        due("type", () -> x.type(0, 2, 7), INT);
+        due("start", () -> x.start(12, 0, 0), true);
+        due("steps", () -> x.steps(200), 4);
+        due("result", () -> x.about(5), 144);
+        FrameVerifier y = plain(NONE, 0, PUSH, 7, ADD, 0, RETURN, 0);
+        due("verify", y::verify, 1002);
+        due("type", () -> y.type(0, 2, 6), REFERENCE);
+        due("routine", () -> y.routine(0, 4, 1, 0), true);
+        append(y, PUSH, 100, LOAD, 0, DIVIDE, 0, RETURN, 0);
+        due("verify", y::verify, 0);
+        due("start", () -> y.start(0, 0, 0), true);
+        due("steps", () -> y.steps(2), 2);
+        due("height", () -> y.about(3), 2);
+        due("step", y::step, DIVISION);
+        due("a run", () -> y.about(0), 0);
     }
 
     private static void newObject() {
